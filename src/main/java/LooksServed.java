@@ -972,7 +972,8 @@ public final class LooksServed {
             int top = 0;
             for (int i = 0; i < codes.length; i++) {
                 int code = codes[i];
-                top -= partsOf(code);
+                int parts = code >= NUMBERS || code < NAMES ? 0 : code == '!' ? 1 : 2;
+                top -= parts;
                 if (top < 0 || top >= worths.length) {
                     return 0;
                 }
@@ -998,10 +999,6 @@ public final class LooksServed {
                 top++;
             }
             return worths.length > 0 ? worths[0] : 0;
-        }
-
-        private static int partsOf(int code) {
-            return code >= NUMBERS || code < NAMES ? 0 : code == '!' ? 1 : 2;
         }
     }
 

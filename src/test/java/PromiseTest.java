@@ -142,6 +142,8 @@ public final class PromiseTest {
         row("faces", of(44, 46, 24, 21, 29, 24, 25), ofAll(x, 6));
         for (int i = 0; i < 7; i++) x.change(i, 2, 3);
         row("faces, had 3", of(47, 49, 25, 24, 32, 34, 28), ofAll(x, 6));
+        x.change(5, 2, 1);
+        due("a couple, had 1", x.ofDiner(5, 6), 20 + 4 + 9);
         x.change(0, 3, 1);
         row("of 0", of(0, 1, 47, 4, 3, 1, 47), x.ofDiner(0, 0), x.ofDiner(0, 1), x.ofDiner(0, 2), x.ofDiner(0, 3),
             x.ofDiner(0, 4), x.ofDiner(0, 5), x.ofDiner(0, 6));
@@ -257,7 +259,7 @@ public final class PromiseTest {
         due("worth", x.law(0, 0, 9, 0), 4);
         due("empty", x.text(0), -10);
         for (String t : new String[] {"0", "9999", "0000", "h", "!!!!!h", "(((((h)))))", "!(!(!h))", "1<2&2>1|0=0",
-            "(1<2)<3", "!h+!h+!h+!h+!h+!h+!h", "(h)+(h)+(h)+(h)+(h)+(h)+(h)", "h%3/2*1-4+5",
+            "(1<2)<3", "(0|1)", "((1|0)&(1|0))", "!h+!h+!h+!h+!h+!h+!h", "(h)+(h)+(h)+(h)+(h)+(h)+(h)", "h%3/2*1-4+5",
             "h+h+h+h+h+h+h+h+h+h+h+h+h+h+h+h+h+h+h+h+h+h+h+h+10"}) {
             good(0, t);
             good(1, t);
@@ -469,6 +471,10 @@ public final class PromiseTest {
         x.change(0, 2, 0);
         due("thought goes beyond", x.then(60, 0, 1), 60);
         due("z", x.count(9), 1);
+        LooksServed y = new LooksServed();
+        for (int i = 0; i < 166; i++) y.steps(60);
+        due("to the last by draws", y.loose(39), 0);
+        due("step", y.count(2), 9999);
     }
 
     static void p13_steps() {
@@ -479,7 +485,14 @@ public final class PromiseTest {
         stepLimits();
     }
 
+    private static void drawsForOne() {
+        LooksServed x = shammers(0);
+        x.loose(1);
+        row("one diner takes every draw", of(1), ofAll(x, 3));
+    }
+
     static void p14_loose() {
+        drawsForOne();
         LooksServed x = shammers(0, 0, 0);
         all("beyond", BEYOND, x.loose(0), x.loose(41), x.loose(-1), x.loose(MAX), x.loose(MIN));
         due("z", x.count(9), 1);
@@ -678,6 +691,8 @@ public final class PromiseTest {
         row("harm", of(0b100, 0b100, 0), x.harm(0, 1), x.harm(1, 1), x.harm(2, 1));
         x.change(2, 3, 1);
         row("harm", of(0b1000, 0b1000), x.harm(0, 9), x.harm(1, 9));
+        LooksServed y = shammers(3, 1, 5);
+        row("harm to the first", of(0b001, 0b001), y.harm(2, 1), y.harm(2, 60));
         all("beyond", BEYOND, x.harm(4, 0), x.harm(-1, 0), x.harm(0, 61), x.harm(0, -1), x.harm(MAX, 0),
             x.harm(0, MAX), x.harm(0, MIN));
         row("only thought", of(5, 3, 3, 1), ofAll(x, 3));
@@ -708,6 +723,8 @@ public final class PromiseTest {
         row("the gone have hunger", of(3, NONE, 3), x.enough(41, 1), x.enough(40, 1), x.enough(99, 60));
         x.change(2, 0, 10);
         row("enough", of(2, 1), x.enough(41, 1), x.enough(42, 1));
+        x.change(0, 0, 80);
+        row("the first is hungriest", of(1, NONE, NONE), x.enough(76, 1), x.enough(75, 1), x.enough(74, 1));
         all("beyond", BEYOND, x.enough(0, 1), x.enough(100, 1), x.enough(1, 61), x.enough(1, -1),
             x.enough(-1, 1), x.enough(MAX, 1), x.enough(1, MAX), x.enough(MIN, 1), x.enough(1, MIN));
         due("only thought", x.count(1), 1);
@@ -941,8 +958,8 @@ public final class PromiseTest {
         x.change(0, 3, 1);
         x.seed(77);
         feed(x, "12");
-        x.tell(5);
-        x.tell(6);
+        x.tell(16 + 21);
+        x.tell(16 + 16);
         sheetOf(x, 0, 8, 3, 4);
         x.voice(0, 0, 1);
         x.image();
@@ -985,7 +1002,7 @@ public final class PromiseTest {
         x.steps(2);
         due("the image is apart", x.restore(), 4);
         due("step", x.count(2), 4);
-        due("numbers that wait", x.check(), 1);
+        due("numbers that wait", x.check(), 0);
     }
 
     static void p38_tell() {
