@@ -1,10 +1,12 @@
 import java.lang.reflect.Method;
 import java.util.Random;
 
-/** Long runs of calls, the program's answers held against the Model's; every act is followed by all counts. */
+/** Runs of 512 calls, the program's answers held against the Model's; now and then, and at the end, all counts. */
 public final class ModelTest {
-    private static final int RUNS = 60;
+    private static final int RUNS = 150;
     private static final int CALLS = 512;
+    /** What sameCounts() calls at most: 10 counts, 5 told(), 7 of each of 8 DINERS. */
+    private static final int COUNTS = 71;
     private static final int[] EDGES = {Integer.MIN_VALUE, Integer.MIN_VALUE + 1, -1000000001, -41, -2, -1, 0, 1, 2, 3,
         4, 5, 6, 7, 8, 9, 10, 16, 30, 31, 32, 40, 41, 60, 61, 69, 70, 99, 100, 128, 255, 256, 9999,
         Integer.MAX_VALUE - 1, Integer.MAX_VALUE};
@@ -21,6 +23,7 @@ public final class ModelTest {
     private final LooksServed program = new LooksServed();
     private final Model model = new Model();
     private final StringBuilder log = new StringBuilder();
+    private int calls = 0;
     private final boolean wild;
 
     private ModelTest(long seed) {
@@ -45,6 +48,8 @@ public final class ModelTest {
     }
 
     private boolean same(String name, Object... args) {
+        if (calls == CALLS - COUNTS) return true;
+        calls++;
         StringBuilder call = new StringBuilder(name).append('(');
         for (Object a : args) call.append(a).append(' ');
         Object want;
@@ -63,9 +68,11 @@ public final class ModelTest {
     }
 
     private boolean sameCounts() {
+        int diners = model.count(0);
+        calls += 15 + 7 * diners;
         for (int i = 0; i < 10; i++) if (program.count(i) != model.count(i)) return differs("count", i);
         for (int k = 1; k <= 5; k++) if (program.told(k) != model.told(k)) return differs("told", k);
-        for (int i = 0; i < program.count(0); i++) {
+        for (int i = 0; i < diners; i++) {
             for (int what = 0; what < 7; what++) {
                 if (program.ofDiner(i, what) != model.ofDiner(i, what)) return differs("ofDiner " + i, what);
             }
@@ -116,12 +123,12 @@ public final class ModelTest {
     private boolean fillSheet() {
         int sheet = random.nextInt(4);
         boolean faces = random.nextBoolean();
-        int n = faces ? program.count(0) : from(0, 9);
+        int n = faces ? model.count(0) : from(0, 9);
         if (!same("sheet", sheet, new int[] {8, 16, 32}[random.nextInt(3)], n)) return false;
         Model ahead = model.copy();
         if (random.nextBoolean()) ahead.waiters = from(1, 4);
         for (int i = 0; i < n; i++) {
-            int v = faces ? program.ofDiner(i, 6) : ahead.goStep();
+            int v = faces ? model.ofDiner(i, 6) : ahead.goStep();
             if (random.nextInt(12) == 0) v = number();
             if (!same("put", sheet, i, v)) return false;
         }
@@ -139,7 +146,7 @@ public final class ModelTest {
     }
 
     private int argument(String[] parts, int[] at) {
-        int diners = program.count(0);
+        int diners = model.count(0);
         String part = parts[at[0]++];
         switch (part) {
             case "D": return diners == 0 ? from(-1, 1) : from(0, diners - 1);
@@ -180,8 +187,12 @@ public final class ModelTest {
     }
 
     private boolean run() {
-        for (int i = 0; i < CALLS; i++) if (!oneCall(i) || !sameCounts()) return false;
-        return true;
+        for (int i = 0; calls < CALLS - COUNTS; i++) {
+            if (!oneCall(i)) return false;
+            boolean isRoom = calls <= CALLS - 2 * COUNTS;
+            if (isRoom && random.nextInt(20) == 0 && !sameCounts()) return false;
+        }
+        return sameCounts();
     }
 
     public static void main(String[] args) {

@@ -1,81 +1,5 @@
-import java.util.ArrayList;
-import java.util.List;
-
 /** One test for each promise, with answers worked out by hand from the document. */
-public final class PromiseTest {
-    private static final int MIN = Integer.MIN_VALUE;
-    private static final int MAX = Integer.MAX_VALUE;
-    private static final int BEYOND = -1000000001;
-    private static final int NONE = -1000000002;
-    private static final int STATE = -1000000003;
-    private static final int FULL = -1000000004;
-    private static final int KIND = -1000000005;
-
-    private static final List<String> WRONG = new ArrayList<>();
-
-    private interface Test {
-        void run();
-    }
-
-    private static void due(String call, long got, long want) {
-        if (got != want) WRONG.add(call + " answered " + got + ", due is " + want);
-    }
-
-    /** Every one of these answers must be the same. */
-    private static void all(String calls, long want, int... got) {
-        for (int i = 0; i < got.length; i++) due(calls + " [" + i + "]", got[i], want);
-    }
-
-    private static void row(String calls, int[] want, int... got) {
-        due(calls + ", how many", got.length, want.length);
-        for (int i = 0; i < Math.min(got.length, want.length); i++) due(calls + " [" + i + "]", got[i], want[i]);
-    }
-
-    private static int[] of(int... v) {
-        return v;
-    }
-
-    private static int feed(LooksServed x, String text) {
-        int fed = x.count(6);
-        for (int i = 0; i < text.length(); i++) fed = x.feed(text.charAt(i), 1);
-        return fed;
-    }
-
-    private static int write(LooksServed x, int use, String text) {
-        feed(x, text);
-        return x.text(use);
-    }
-
-    /** Plain DINERS without a LOOKS of their own, so that FACE is SHAM alone. */
-    private static LooksServed shammers(int... shams) {
-        LooksServed x = new LooksServed();
-        due("text 0", write(x, 0, "0"), 1);
-        for (int sham : shams) x.diner(0, 40, sham);
-        return x;
-    }
-
-    private static int[] hungers(LooksServed x) {
-        return ofAll(x, 2);
-    }
-
-    private static int[] ofAll(LooksServed x, int what) {
-        int[] all = new int[x.count(0)];
-        for (int i = 0; i < all.length; i++) all[i] = x.ofDiner(i, what);
-        return all;
-    }
-
-    private static int[] trace(LooksServed x) {
-        int[] all = new int[x.count(8)];
-        for (int i = 0; i < all.length; i++) all[i] = x.trace(i);
-        return all;
-    }
-
-    private static int sheetOf(LooksServed x, int sheet, int bits, int... numbers) {
-        int answer = x.sheet(sheet, bits, numbers.length);
-        for (int i = 0; i < numbers.length; i++) x.put(sheet, i, numbers[i]);
-        return answer;
-    }
-
+public final class PromiseTest extends Checks {
     // ---- courses, waiters, diners
 
     static void p1_newObject() {
@@ -560,16 +484,6 @@ public final class PromiseTest {
             x.then(0, 0, 3), x.then(0, 0, -1), x.then(MAX, 0, 0), x.then(MIN, 0, 0), x.then(0, MAX, 0));
         row("only thought", of(40, 40), hungers(x));
         due("only thought", x.count(2), 0);
-    }
-
-    /** The second DINER's hunger passes 60 behind so many STEPS. */
-    private static LooksServed waiting(int hunger) {
-        LooksServed x = new LooksServed();
-        write(x, 0, "h");
-        for (int i = 0; i < 8; i++) x.fills(i, 0);
-        x.diner(0, 60, 0);
-        x.diner(0, hunger, 0);
-        return x;
     }
 
     static void p17_first() {
@@ -1076,24 +990,6 @@ public final class PromiseTest {
         row("counted, too", of(7, 1, 1, 4, 3), x.told(1), x.told(2), x.told(3), x.told(4), x.told(5));
     }
 
-    private static int passed = 0;
-    private static int failed = 0;
-
-    private static void test(String name, Test test) {
-        WRONG.clear();
-        try {
-            test.run();
-        } catch (RuntimeException e) {
-            WRONG.add("threw " + e);
-        }
-        if (WRONG.isEmpty()) {
-            passed++;
-            return;
-        }
-        failed++;
-        for (String wrong : WRONG) System.out.println(name + ": " + wrong);
-    }
-
     public static void main(String[] args) {
         test("promise 1", PromiseTest::p1_newObject);
         test("promise 2", PromiseTest::p2_fills);
@@ -1136,7 +1032,6 @@ public final class PromiseTest {
         test("promise 39", PromiseTest::p39_check);
         test("promise 40", PromiseTest::p40_count);
         test("promise 41", PromiseTest::p41_told);
-        System.out.println("PromiseTest: " + passed + " passed, " + failed + " failed");
-        if (failed > 0) System.exit(1);
+        finish("PromiseTest");
     }
 }
